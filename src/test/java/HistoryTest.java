@@ -1,7 +1,10 @@
 /** Promises 23 to 25: undo, save, restore. */
 public final class HistoryTest {
+    private static final String PAGE = "+0=abcdefgh;n1-3;n5-5;r1;-5-5;+2=f;n0-1";
+
     public static void main(String[] args) {
         undoEachChange();
+        undoChangesOneByOne();
         undoAtMostSix();
         undoOfNotes();
         whatIsNoChange();
@@ -32,49 +35,76 @@ public final class HistoryTest {
         return state.toString();
     }
 
-    private static void undone(AnchoredNotes x, String call, String before) {
+    private static void undone(AnchoredNotes x, String call) {
         int changes = x.count(12);
         Due.is("undo() of " + call, x.undo(), changes - 1);
-        Due.holds("undone: " + call, state(x).equals(before));
+        Due.holds("undone: " + call, state(x).equals(state(page())));
     }
 
     private static AnchoredNotes page() {
         AnchoredNotes x = new AnchoredNotes();
-        Due.is("a page", Due.carryOut(x, "+0=abcdefgh;n1-3;n5-5;r1;-5-5;+2=f;n0-1"), 7);
+        Due.is("a page", Due.carryOut(x, PAGE), 7);
         return x;
     }
 
     private static void undoEachChange() {
-        String before = state(page());
         AnchoredNotes x = page();
-        Due.is("save(0)", x.save(0), 8);
         Due.is("set(0, 0)", x.set(0, 0), 3);
-        undone(x, "set AROUND", before);
+        undone(x, "set AROUND");
+        x = page();
         Due.is("set(1, 1)", x.set(1, 1), 12);
-        undone(x, "set WIDTH", before);
+        undone(x, "set WIDTH");
+        x = page();
         Due.is("set(2, 9)", x.set(2, 9), 2);
-        undone(x, "set ROOM", before);
+        undone(x, "set ROOM");
+        x = page();
         Due.is("write(3, 3)", x.write(3, 3), 9);
-        undone(x, "write", before);
+        undone(x, "write");
+        x = page();
         Due.is("erase(0, 4)", x.erase(0, 4), 2);
-        undone(x, "erase", before);
+        undone(x, "erase");
+        x = page();
         Due.is("move(0, 3, 2)", x.move(0, 3, 2), 1);
-        undone(x, "move", before);
+        undone(x, "move");
+        x = page();
         Due.is("note(1, 1)", x.note(1, 1), 4);
-        undone(x, "note", before);
+        undone(x, "note");
+        x = page();
         Due.is("reply(0)", x.reply(0), 4);
-        undone(x, "reply", before);
+        undone(x, "reply");
+        x = page();
         Due.is("drop(1)", x.drop(1), 2);
-        undone(x, "drop", before);
+        undone(x, "drop");
+        x = page();
         Due.is("reclaim(1)", x.reclaim(1), 2);
-        undone(x, "reclaim", before);
+        undone(x, "reclaim");
+        x = page();
         Due.is("carryOut()", Due.carryOut(x, "x1;-0-0;+0=z"), 3);
-        undone(x, "carryOut", before);
-        x.erase(0, 7);
-        String empty = state(x);
-        Due.is("restore(0)", x.restore(0), 8);
-        undone(x, "restore", empty);
-        undone(x, "erase of all", before);
+        undone(x, "carryOut");
+        x = new AnchoredNotes();
+        x.save(0);
+        Due.is("a page", Due.carryOut(x, PAGE), 7);
+        Due.is("restore(0)", x.restore(0), 0);
+        undone(x, "restore");
+    }
+
+    private static void undoChangesOneByOne() {
+        AnchoredNotes x = page();
+        String[] states = new String[6];
+        states[1] = state(x);
+        x.drop(0);
+        states[2] = state(x);
+        x.erase(1, 4);
+        states[3] = state(x);
+        x.note(0, 2);
+        states[4] = state(x);
+        x.move(0, 0, 3);
+        states[5] = state(x);
+        x.set(1, 1);
+        for (int left = 5; left >= 1; left--) {
+            Due.is("undo()", x.undo(), left);
+            Due.holds("state " + left, state(x).equals(states[left]));
+        }
     }
 
     private static void undoAtMostSix() {
@@ -84,6 +114,7 @@ public final class HistoryTest {
             x.write(length, 0);
             Due.is("changes", x.count(12), changes[length]);
         }
+        Due.is("an error", x.write(0, 26), -2);
         for (int left = 5; left >= 0; left--) {
             Due.is("undo()", x.undo(), left);
             Due.is("letters", x.count(0), 2 + left);

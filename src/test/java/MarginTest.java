@@ -69,6 +69,9 @@ public final class MarginTest {
         at(x, 15, 26, 15);
         Due.is("the last line", x.count(6), 26);
         Due.is("the leaders", x.count(7), 120);
+        x.set(2, 2);
+        Due.is("the leaders with more room", x.count(7), 56);
+        x.set(2, 1);
         Due.append(x, "mnopqrstuvwxyzmnopqrstuvwxyzmnopqrstuvwxyzmnopqr");
         x.move(11, 11, 59);
         at(x, 15, 74, 15);

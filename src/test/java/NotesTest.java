@@ -6,6 +6,7 @@ public final class NotesTest {
         reply();
         drop();
         dropMovesUp();
+        dropOfAllAtAPlace();
         reclaim();
         reclaimRemembersAnew();
         reclaimErrors();
@@ -98,6 +99,18 @@ public final class NotesTest {
         Due.holds("its words", Due.words(x, 4).equals("f"));
         Due.is("at(5)", x.at(5), 16);
         Due.is("at(1) is as before", x.at(1), 1);
+    }
+
+    private static void dropOfAllAtAPlace() {
+        AnchoredNotes x = Due.text("abcdef");
+        for (int note = 0; note < 6; note++) {
+            x.note(0, note);
+        }
+        Due.is("drop(2)", x.drop(2), 1);
+        int[] sets = {31, 30, 28, 28, 24, 16};
+        for (int place = 0; place < sets.length; place++) {
+            Due.is("at(" + place + ")", x.at(place), sets[place]);
+        }
     }
 
     private static void reclaim() {

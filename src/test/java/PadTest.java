@@ -10,6 +10,7 @@ public final class PadTest {
         carryOut();
         carryOutUpToAnError();
         carryOutPartly();
+        carryOutOfLongNumbers();
         carryOutIsOneChange();
         Due.close();
     }
@@ -166,6 +167,14 @@ public final class PadTest {
         Due.is("letter(2)", x.letter(2), 0);
         Due.is("all that is one change", x.undo(), 5);
         Due.is("letters", x.count(0), 58);
+    }
+
+    private static void carryOutOfLongNumbers() {
+        AnchoredNotes x = Due.text("abcdefghijklmnopqrstuvwxyzabcdefghijklmnopqrstuvwxyz");
+        Due.is("numbers of two digits", Due.carryOut(x, "+52=yz;n30-41;-10-29;m20-31>11;n12-33"), 5);
+        Due.is("from", x.of(1, 1), 12);
+        Due.is("to", x.of(1, 2), 33);
+        Due.looks(x, "abcdefghijeopqrstuvwxyzfghijklmnyz");
     }
 
     private static void carryOutIsOneChange() {

@@ -39,6 +39,9 @@ public final class WhatIfTest {
         Due.is("orphansIf(0, -1)", x.orphansIf(0, -1), -1);
         Due.is("orphansIf(1, 0)", x.orphansIf(1, 0), -2);
         Due.is("orphansIf(1, 1)", x.orphansIf(1, 1), 0);
+        x.note(0, 0);
+        Due.is("orphansIf(0, 0)", x.orphansIf(0, 0), 1);
+        Due.is("orphansIf(1, 1)", x.orphansIf(1, 1), 0);
     }
 
     private static void could() {
