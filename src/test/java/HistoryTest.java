@@ -88,22 +88,29 @@ public final class HistoryTest {
         undone(x, "restore");
     }
 
-    private static void undoChangesOneByOne() {
+    /** So many changes, the first of which makes the page. */
+    private static AnchoredNotes changed(int changes) {
         AnchoredNotes x = page();
-        String[] states = new String[6];
-        states[1] = state(x);
-        x.drop(0);
-        states[2] = state(x);
-        x.erase(1, 4);
-        states[3] = state(x);
-        x.note(0, 2);
-        states[4] = state(x);
-        x.move(0, 0, 3);
-        states[5] = state(x);
-        x.set(1, 1);
+        for (int change = 1; change < changes; change++) {
+            int answer = switch (change) {
+                case 1 -> x.drop(0);
+                case 2 -> x.erase(1, 4);
+                case 3 -> x.note(0, 2);
+                case 4 -> x.move(0, 0, 3);
+                default -> x.set(1, 1);
+            };
+            Due.holds("change " + change + " succeeds", answer >= 0);
+        }
+        return x;
+    }
+
+    private static void undoChangesOneByOne() {
         for (int left = 5; left >= 1; left--) {
-            Due.is("undo()", x.undo(), left);
-            Due.holds("state " + left, state(x).equals(states[left]));
+            AnchoredNotes x = changed(6);
+            for (int undone = 5; undone >= left; undone--) {
+                Due.is("undo()", x.undo(), undone);
+            }
+            Due.holds("state " + left, state(x).equals(state(changed(left))));
         }
     }
 

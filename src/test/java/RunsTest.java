@@ -2,8 +2,11 @@
 public final class RunsTest {
     private static final int RUNS = 400;
     private static final int CALLS = 512;
+    /** More than one change makes, by a text of many orders. */
+    private static final int MOST_AT_ONCE = 20;
 
     private long seed;
+    private int calls = 0;
     private final AnchoredNotes x = new AnchoredNotes();
     private final Model model = new Model();
     private final int alphabet;
@@ -16,11 +19,19 @@ public final class RunsTest {
     public static void main(String[] args) {
         for (int run = 0; run < RUNS; run++) {
             RunsTest test = new RunsTest(run);
-            for (int call = 0; call < CALLS; call++) {
-                test.call("run " + run + ", call " + call + ": ");
+            while (test.calls < CALLS - MOST_AT_ONCE) {
+                test.call("run " + run + ", call " + test.calls + ": ");
+            }
+            while (test.calls < CALLS) {
+                test.ask("run " + run + ", call " + test.calls + ": ");
             }
         }
         Due.close();
+    }
+
+    private void due(String call, int got, int want) {
+        calls++;
+        Due.is(call, got, want);
     }
 
     private int below(int bound) {
@@ -67,13 +78,13 @@ public final class RunsTest {
         int letter = below(30) == 0 ? about(25) : below(alphabet);
         switch (below(18)) {
             case 0 -> setting(run);
-            case 1, 2, 3, 4, 5 -> Due.is(run + "write(" + place + ", " + letter + ")", x.write(place, letter), model.write(place, letter));
-            case 6, 7 -> Due.is(run + "erase(" + from + ", " + to + ")", x.erase(from, to), model.erase(from, to));
-            case 8, 9 -> Due.is(run + "move(" + from + ", " + to + ", " + place + ")", x.move(from, to, place), model.move(from, to, place));
-            case 10, 11 -> Due.is(run + "note(" + from + ", " + to + ")", x.note(from, to), model.note(from, to));
-            case 12 -> Due.is(run + "reply(" + note + ")", x.reply(note), model.reply(note));
+            case 1, 2, 3, 4, 5 -> due(run + "write(" + place + ", " + letter + ")", x.write(place, letter), model.write(place, letter));
+            case 6, 7 -> due(run + "erase(" + from + ", " + to + ")", x.erase(from, to), model.erase(from, to));
+            case 8, 9 -> due(run + "move(" + from + ", " + to + ", " + place + ")", x.move(from, to, place), model.move(from, to, place));
+            case 10, 11 -> due(run + "note(" + from + ", " + to + ")", x.note(from, to), model.note(from, to));
+            case 12 -> due(run + "reply(" + note + ")", x.reply(note), model.reply(note));
             case 13 -> drop(run, note);
-            case 14 -> Due.is(run + "reclaim(" + note + ")", x.reclaim(note), model.reclaim(note));
+            case 14 -> due(run + "reclaim(" + note + ")", x.reclaim(note), model.reclaim(note));
             case 15 -> undoOrSlots(run);
             default -> texts(run);
         }
@@ -83,29 +94,29 @@ public final class RunsTest {
         int[] most = {8, 60, 9};
         int setting = about(2);
         int value = about(setting >= 0 && setting < 3 ? most[setting] : 9);
-        Due.is(run + "set(" + setting + ", " + value + ")", x.set(setting, value), model.set(setting, value));
+        due(run + "set(" + setting + ", " + value + ")", x.set(setting, value), model.set(setting, value));
     }
 
     private void drop(String run, int note) {
         // Not each time, for the notes to become many.
         if (below(3) == 0) {
-            Due.is(run + "drop(" + note + ")", x.drop(note), model.drop(note));
+            due(run + "drop(" + note + ")", x.drop(note), model.drop(note));
         }
     }
 
     private void undoOrSlots(String run) {
         int slot = about(1);
         switch (below(4)) {
-            case 0 -> Due.is(run + "save(" + slot + ")", x.save(slot), model.save(slot));
-            case 1 -> Due.is(run + "restore(" + slot + ")", x.restore(slot), model.restore(slot));
-            default -> Due.is(run + "undo()", x.undo(), model.undo());
+            case 0 -> due(run + "save(" + slot + ")", x.save(slot), model.save(slot));
+            case 1 -> due(run + "restore(" + slot + ")", x.restore(slot), model.restore(slot));
+            default -> due(run + "undo()", x.undo(), model.undo());
         }
     }
 
     private void texts(String run) {
         switch (below(10)) {
-            case 0 -> Due.is(run + "wipe()", x.wipe(), model.wipe());
-            case 1, 2 -> Due.is(run + "carryOut()", x.carryOut(), model.carryOut());
+            case 0 -> due(run + "wipe()", x.wipe(), model.wipe());
+            case 1, 2 -> due(run + "carryOut()", x.carryOut(), model.carryOut());
             case 3 -> put(run, (long) below(1 << 30) << 33 | below(1 << 30));
             case 4 -> put(run, Due.packed(String.valueOf((char) (33 + below(94)))));
             default -> orders(run);
@@ -113,7 +124,7 @@ public final class RunsTest {
     }
 
     private void put(String run, long characters) {
-        Due.is(run + "put(" + characters + ")", x.put(characters), model.put(characters));
+        due(run + "put(" + characters + ")", x.put(characters), model.put(characters));
     }
 
     private void orders(String run) {
@@ -124,9 +135,9 @@ public final class RunsTest {
         for (int from = 0; from < orders.length(); from += 8) {
             put(run, Due.packed(orders.substring(from, Math.min(from + 8, orders.length()))));
         }
-        Due.is(run + "fault() of " + orders, x.fault(), model.fault());
+        due(run + "fault() of " + orders, x.fault(), model.fault());
         if (below(3) > 0) {
-            Due.is(run + "carryOut() of " + orders, x.carryOut(), model.carryOut());
+            due(run + "carryOut() of " + orders, x.carryOut(), model.carryOut());
         }
     }
 
@@ -159,15 +170,15 @@ public final class RunsTest {
         int counted = about(12);
         int leader = below(3) == 0 ? about(60) : about(4);
         switch (below(11)) {
-            case 0 -> Due.is(run + "letter(" + from + ")", x.letter(from), model.letter(from));
-            case 1, 2 -> Due.is(run + "of(" + note + ", " + what + ")", x.of(note, what), model.of(note, what));
-            case 3 -> Due.is(run + "word(" + note + ", " + which + ")", x.word(note, which), model.word(note, which));
-            case 4 -> Due.is(run + "at(" + from + ")", x.at(from), model.at(from));
-            case 5 -> Due.is(run + "printed(" + note + ", " + which + ")", x.printed(note, which), model.printed(note, which));
-            case 6, 7 -> Due.is(run + "count(" + counted + ")", x.count(counted), model.count(counted));
-            case 8 -> Due.is(run + "orphansIf(" + from + ", " + to + ")", x.orphansIf(from, to), model.orphansIf(from, to));
-            case 9 -> Due.is(run + "could(" + note + ", " + which + ")", x.could(note, which), model.could(note, which));
-            default -> Due.is(run + "leastRoom(" + leader + ")", x.leastRoom(leader), model.leastRoom(leader));
+            case 0 -> due(run + "letter(" + from + ")", x.letter(from), model.letter(from));
+            case 1, 2 -> due(run + "of(" + note + ", " + what + ")", x.of(note, what), model.of(note, what));
+            case 3 -> due(run + "word(" + note + ", " + which + ")", x.word(note, which), model.word(note, which));
+            case 4 -> due(run + "at(" + from + ")", x.at(from), model.at(from));
+            case 5 -> due(run + "printed(" + note + ", " + which + ")", x.printed(note, which), model.printed(note, which));
+            case 6, 7 -> due(run + "count(" + counted + ")", x.count(counted), model.count(counted));
+            case 8 -> due(run + "orphansIf(" + from + ", " + to + ")", x.orphansIf(from, to), model.orphansIf(from, to));
+            case 9 -> due(run + "could(" + note + ", " + which + ")", x.could(note, which), model.could(note, which));
+            default -> due(run + "leastRoom(" + leader + ")", x.leastRoom(leader), model.leastRoom(leader));
         }
     }
 }
