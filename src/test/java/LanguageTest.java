@@ -1,6 +1,10 @@
 import java.io.IOException;
+import java.lang.reflect.Field;
+import java.lang.reflect.Method;
+import java.lang.reflect.Modifier;
 import java.nio.file.Files;
 import java.nio.file.Path;
+import java.util.ArrayList;
 import java.util.HashSet;
 import java.util.List;
 import java.util.Set;
@@ -19,7 +23,9 @@ public final class LanguageTest {
         }
         words(code.toString());
         statics(code.toString());
-        face();
+        library(code.toString());
+        names();
+        fields();
         methods(lines);
         Due.close();
     }
@@ -50,29 +56,58 @@ public final class LanguageTest {
         }
     }
 
-    private static void face() {
+    private static void names() {
         Set<String> names = new HashSet<>();
-        for (var method : AnchoredNotes.class.getDeclaredMethods()) {
-            if (java.lang.reflect.Modifier.isPublic(method.getModifiers())) {
+        for (Method method : AnchoredNotes.class.getDeclaredMethods()) {
+            if (Modifier.isPublic(method.getModifiers())) {
                 names.add(method.getName());
-            } else {
-                Due.holds("private: " + method, java.lang.reflect.Modifier.isPrivate(method.getModifiers()));
             }
         }
         Due.is("public methods", names.size(), 24);
-        Set<String> fields = new HashSet<>();
-        for (var field : AnchoredNotes.class.getDeclaredFields()) {
-            if (!java.lang.reflect.Modifier.isPrivate(field.getModifiers())) {
-                fields.add(field.getName());
+        for (Class<?> type : classes()) {
+            for (Method method : type.getDeclaredMethods()) {
+                boolean face = Modifier.isPublic(method.getModifiers());
+                Due.holds("another name than a public method's: " + method, face || !names.contains(method.getName()));
             }
         }
-        Due.holds("constants", fields.equals(Set.of("NO_SUCH", "BAD_VALUE", "BAD_TEXT", "TOO_MANY", "NOT_POSSIBLE",
-            "NONE", "AROUND", "WIDTH", "ROOM")));
-        for (Class<?> inner : AnchoredNotes.class.getDeclaredClasses()) {
-            for (var method : inner.getDeclaredMethods()) {
-                Due.holds("another name than a public method's: " + method, !names.contains(method.getName()));
+    }
+
+    private static List<Class<?>> classes() {
+        List<Class<?>> classes = new ArrayList<>(List.of(AnchoredNotes.class.getDeclaredClasses()));
+        classes.add(AnchoredNotes.class);
+        return classes;
+    }
+
+    private static void fields() {
+        for (Class<?> type : classes()) {
+            int fields = 0;
+            for (Field field : type.getDeclaredFields()) {
+                if (!Modifier.isStatic(field.getModifiers())) {
+                    fields++;
+                    Class<?> of = field.getType();
+                    Class<?> one = of.isArray() ? of.getComponentType() : of;
+                    Due.holds("a number, one of its own classes, or a row of these: " + field, one == int.class || classes().contains(one));
+                }
             }
+            Due.holds("few fields: " + type, fields <= 20);
         }
+    }
+
+    /** Each name with a capital is one of its own classes, or of the library that is listed. */
+    private static void library(String code) {
+        Set<String> known = new HashSet<>(Set.of("Integer", "Math", "System"));
+        for (Class<?> type : classes()) {
+            known.add(type.getSimpleName());
+        }
+        Matcher name = Pattern.compile("\\b[A-Z]\\w*[a-z]\\w*\\b").matcher(code);
+        while (name.find()) {
+            Due.holds("it may use " + name.group(), known.contains(name.group()));
+        }
+        Matcher call = Pattern.compile("\\b(?:Integer|Math|System)\\.\\w+").matcher(code);
+        while (call.find()) {
+            Due.holds("it may call " + call.group(), Set.of("Integer.bitCount", "Math.max", "Math.min", "System.arraycopy").contains(call.group()));
+        }
+        Due.holds("all signs are 1 to 127", code.chars().allMatch(sign -> sign >= 1 && sign <= 127));
     }
 
     private static void methods(List<String> lines) {

@@ -17,10 +17,12 @@ public final class MarginBoundsTest {
         noRoomOnTheNext();
         belowTheText();
         leaders();
+        whereItIsPrinted();
         lineAndLeader();
         printedNoNote();
         printedWrongQuestion();
         printedNone();
+        countChangesNothing();
         countLetters();
         countNotes();
         countParted();
@@ -210,6 +212,25 @@ public final class MarginBoundsTest {
 
     // -- promise 14
 
+    private static void whereItIsPrinted() {
+        Doc.sentence("Promise 14", "Returns where a note is printed.");
+        Doc.sentence("Promise 14", "Returns the number");
+        AnchoredNotes x = page(12, 2, 13, 12, 59, 14);
+        printed(x, 0, 1, 0);
+        printed(x, 1, 1, 0);
+        printed(x, 2, 4, 0);
+        printed(x, 3, 2, 1);
+        x.move(13, 13, 59);
+        printed(x, 0, 4, 0);
+        printed(x, 3, 1, 0);
+        for (int what = 0; what <= 1; what++) {
+            int asked = what;
+            for (Supplier<AnchoredNotes> made : Sheets.ALL) {
+                Same.unchanged("printed(0, " + what + ")", made, y -> y.printed(0, asked));
+            }
+        }
+    }
+
     private static void lineAndLeader() {
         Doc.sentence("Promise 14", "`what`: 0 the line, 1 its leader");
         printed(page(60, 1, 59), 0, 0, 0);
@@ -253,6 +274,17 @@ public final class MarginBoundsTest {
     }
 
     // -- promise 15
+
+    private static void countChangesNothing() {
+        Doc.sentence("Promise 15", "Returns a number.");
+        Doc.sentence("Promise 15", "Returns the number");
+        int[] due = {7, 3, 1, 1, 1, 1, 0, 0, 2, 12, 2, 5, 6};
+        for (int what = 0; what < due.length; what++) {
+            int asked = what;
+            Due.is("count(" + what + ")", Sheets.busy().count(what), due[what]);
+            Same.unchanged("count(" + what + ")", Sheets::busy, x -> x.count(asked));
+        }
+    }
 
     private static void countLetters() {
         Doc.sentence("Promise 15", "`what`: 0 letters of the text, 1 notes, 2 orphans, 3 replies");
@@ -414,6 +446,7 @@ public final class MarginBoundsTest {
     }
 
     private static void leastRooms() {
+        Doc.sentence("Promise 18", "Returns the setting");
         Doc.sentence("Promise 18", "Finds the least ROOM, 1 to 9, with which all leaders are no longer than told.");
         for (int notes = 1; notes <= 9; notes++) {
             Due.is(notes + " at a place, no leader", manyAt(59, notes, 1, 1).leastRoom(0), notes);

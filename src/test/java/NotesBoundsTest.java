@@ -30,6 +30,7 @@ public final class NotesBoundsTest {
         tooManyReplies();
         dropWithReplies();
         noNoteToDrop();
+        whatIsAsked();
         howItIs();
         firstAndLastPlace();
         wordsLettersPieces();
@@ -469,6 +470,22 @@ public final class NotesBoundsTest {
 
     // -- promise 11
 
+    private static void whatIsAsked() {
+        Doc.sentence("Promise 11", "Returns something about a note.");
+        Doc.sentence("Promise 11", "Returns the number");
+        // busy(): note 0 is parted, ac at 0 and b at 4; note 1 is an orphan, note 2 a reply to it.
+        of(Sheets.busy(), 0, 0, 0, 1, 3, 3, 2, NONE, 0, 0);
+        of(Sheets.busy(), 1, 1, NONE, NONE, 2, 0, 0, NONE, 1, 0);
+        of(Sheets.busy(), 2, 2, NONE, NONE, NONE, NONE, NONE, 1, 0, 1);
+        for (int what = 0; what <= 8; what++) {
+            int asked = what;
+            for (int note = 0; note < 3; note++) {
+                int about = note;
+                Same.unchanged("of(" + note + ", " + what + ")", Sheets::busy, x -> x.of(about, asked));
+            }
+        }
+    }
+
     private static void howItIs() {
         Doc.sentence("Promise 11", "`what`: 0 how it is: 0 it stands, 1 it is an orphan, 2 it is a reply");
         AnchoredNotes x = Sheets.busy();
@@ -635,10 +652,14 @@ public final class NotesBoundsTest {
         Due.is("the 16th alone at the last place", x.at(59), 0x8000);
         Due.is("replies are in no set", Sheets.chain("ab", 16).at(0), 1);
         Due.is("orphans are in no set", Sheets.busy().at(3), 0);
+        for (int place = 0; place < 7; place++) {
+            int asked = place;
+            Same.unchanged("at(" + place + ")", Sheets::busy, y -> y.at(asked));
+        }
     }
 
     private static void noPlaceToLookAt() {
-        Doc.sentence("Promise 13", "NO_SUCH if there is no such place");
+        Doc.sentence("Promise 13", "Returns the set; NO_SUCH if there is no such place");
         for (int place : new int[] {MIN, -1, 0, MAX}) {
             Same.refused("at(" + place + ")", Sheets::empty, x -> x.at(place), NO_SUCH);
         }

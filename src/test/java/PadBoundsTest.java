@@ -16,6 +16,7 @@ public final class PadBoundsTest {
         endsTooEarly();
         noFault();
         faultChangesNothing();
+        putBehindTheOthers();
         oneToEight();
         lengthByPut();
         orderOfCharacters();
@@ -56,7 +57,7 @@ public final class PadBoundsTest {
     // -- Texts
 
     private static void mostCharacters() {
-        Doc.sentence("Texts", "The pad is a text of at most 80 characters");
+        Doc.sentence("Texts", "The pad is a text of at most 80 characters, a row of orders");
         AnchoredNotes x = padded(80);
         Due.is("the length", x.count(11), 80);
         Due.is("a full pad is read to its end", x.fault(), NONE);
@@ -230,6 +231,19 @@ public final class PadBoundsTest {
     }
 
     // -- promise 19
+
+    private static void putBehindTheOthers() {
+        Doc.sentence("Promise 19", "Appends characters to the pad. They are given as a number");
+        AnchoredNotes x = Sheets.empty();
+        Due.is("put(0x2b303d61), +0=a", x.put(0x2b303d61), 4);
+        Due.is("put(98), b", x.put(98), 5);
+        Due.is("put(0x3b2d312d31), ;-1-1", x.put(0x3b2d312d31L), 10);
+        Due.is("the length", x.count(11), 10);
+        Due.is("no change", x.count(12), 0);
+        Due.is("carryOut()", x.carryOut(), 2);
+        Due.looks(x, "a");
+        Due.is("put(0x7230), r0, in the pad that is empty then", x.put(0x7230), 2);
+    }
 
     private static void oneToEight() {
         Doc.sentence("Promise 19", "`characters`: 1 to 8 characters");

@@ -23,6 +23,7 @@ public final class ReclaimBoundsTest {
         orphansIfSets();
         orphansIfIsErase();
         orphansIfErrors();
+        couldNow();
         couldPlaces();
         couldNoNote();
         couldWrongQuestion();
@@ -96,7 +97,7 @@ public final class ReclaimBoundsTest {
     }
 
     private static void likenessAhead() {
-        Doc.sentence("To reclaim", "how many letters directly ahead of it look like those that it remembers ahead, one after the other going back, up to the first one that does not");
+        Doc.sentence("To reclaim", "The likeness of such a place is how many letters directly ahead of it look like those that it remembers ahead, one after the other going back, up to the first one that does not");
         could(orphan("abc", "x", "", "abcx"), 3, 3, 1);
         could(orphan("abc", "x", "", "zbcx"), 3, 2, 1);
         could(orphan("abc", "x", "", "zzcx"), 3, 1, 1);
@@ -337,6 +338,26 @@ public final class ReclaimBoundsTest {
     }
 
     // -- promise 17
+
+    private static void couldNow() {
+        Doc.sentence("Promise 17", "Returns something about how an orphan could be reclaimed now.");
+        Doc.sentence("Promise 17", "Returns the number");
+        AnchoredNotes x = orphan("b", "a", "c", "bzaz");
+        could(x, 2, 0, 1);
+        x.erase(1, 1);
+        could(x, 1, 1, 1);
+        x.write(0, 0);
+        could(x, 2, 1, 2);
+        x.write(1, 2);
+        Due.looks(x, "acbaz");
+        could(x, 0, 1, 2);
+        x.move(1, 1, 3);
+        Due.looks(x, "abacz");
+        could(x, 2, 2, 2);
+        x.undo();
+        could(x, 0, 1, 2);
+        Due.is("there it is reclaimed", x.reclaim(0), 0);
+    }
 
     private static void couldPlaces() {
         Doc.sentence("Promise 17", "`what`: 0 the place at which it would be, 1 its likeness, 2 at how many places it could be");

@@ -6,27 +6,31 @@ import java.util.Arrays;
 import java.util.HashMap;
 import java.util.List;
 import java.util.Map;
+import java.util.Set;
 import java.util.regex.Matcher;
 import java.util.regex.Pattern;
 import java.util.stream.Stream;
 
 /**
- * That no sentence which names a bound is without a test: what the tests quote by Doc.sentence() is taken out of the
- * document's terms and promises, and no number, error or other word of a bound may be left then.
+ * That no sentence of the document is without a test: what the tests quote by Doc.sentence() is taken out of it, and
+ * no word may be left then. WholeTest holds the class against the public face, and against what is said of it elsewhere.
  */
 public final class SentencesTest {
     private static final Pattern QUOTE = Pattern.compile("Doc\\.sentence\\(\"((?:[^\"\\\\]|\\\\.)*)\", \"((?:[^\"\\\\]|\\\\.)*)\"\\);");
-    private static final Pattern BOUND = Pattern.compile("\\d|NO_SUCH|BAD_|TOO_MANY|NOT_POSSIBLE|NONE|change|\\b(?:if|most|least|up to|or more|all|each"
-        + "|none|no|nothing|empty|first|last|latest|oldest|only|end|ends|then|how many|fewer|above|below|longest|greatest|without|except|too)\\b");
+    /** The title, the face, a head without words of its own, and what is free. */
+    private static final Set<String> WITHOUT_QUOTES = Set.of("AnchoredNotes", "The public face", "Terms", "Not promised");
+    private static final String FACES = "(?m)^#.*$|^CONVENTIONS\\. |^`[^`]*\\(.*\\)`: |^The constants: `[^`]*`: "
+        + "|^Ahead of the calls .* says: ---- (?:(?:the text|notes|what there is|texts|undo, saving)\\.$)?";
+    private static final String FREE = "; what later calls answer is free.";
 
     public static void main(String[] args) throws IOException {
         Map<String, List<String>> quotes = quotes();
         for (String head : Doc.SECTIONS.keySet()) {
-            if (head.matches("Promise \\d+|CONVENTIONS|Settings|Text|Notes|To reclaim|Margin|Texts")) {
+            if (!WITHOUT_QUOTES.contains(head)) {
                 Due.about(head);
                 List<String> quoted = quotes.getOrDefault(head, List.of());
                 Due.holds("it is quoted by a test", !quoted.isEmpty());
-                bounds(plain(head), quoted);
+                nothingLeft(plain(head), quoted);
             }
         }
         Due.close();
@@ -46,12 +50,12 @@ public final class SentencesTest {
         return quotes;
     }
 
-    /** Without the heads, the methods' faces, and what is said of the face alone. */
+    /** Without the heads, the methods' faces, and what is said to be free. */
     private static String plain(String head) {
-        return Doc.SECTIONS.get(head).replaceAll("(?m)^#.*$|^`[^`]*`: |^The constants: `[^`]*`: |^Ahead of the calls .* says: ---- .*$", "\n");
+        return Doc.SECTIONS.get(head).replaceAll(FACES, "\n").replace(FREE, "\n").replace("```text", "\n");
     }
 
-    private static void bounds(String text, List<String> quoted) {
+    private static void nothingLeft(String text, List<String> quoted) {
         boolean[] tested = new boolean[text.length()];
         for (String words : quoted) {
             for (int at = text.indexOf(words); at >= 0; at = text.indexOf(words, at + 1)) {
@@ -63,7 +67,8 @@ public final class SentencesTest {
             left.append(tested[at] ? '|' : text.charAt(at));
         }
         for (String part : left.toString().split("\\|+")) {
-            Due.holds("a test quotes '" + part.strip() + "'", !BOUND.matcher(part).find());
+            String words = part.replaceAll("\\W+", " ").strip();
+            Due.holds("a test quotes '" + part.strip() + "'", words.isEmpty() || words.equals("and"));
         }
     }
 }

@@ -32,6 +32,7 @@ public final class TextBoundsTest {
         partedByMove();
         noPlaceToMove();
         moveBackwardsOrTooFar();
+        lettersOfTheText();
         letterAtTheEnds();
         noLetter();
         Due.close();
@@ -185,7 +186,7 @@ public final class TextBoundsTest {
     }
 
     private static void lettersOfTheirOwn() {
-        Doc.sentence("Text", "it stays the same one when it is moved, and is another one than each other letter, though they look alike.");
+        Doc.sentence("Text", "Each letter that is written is a letter of its own: it stays the same one when it is moved, and is another one than each other letter, though they look alike.");
         AnchoredNotes x = Sheets.text("aaa");
         x.note(1, 1);
         x.move(1, 1, 0);
@@ -434,6 +435,23 @@ public final class TextBoundsTest {
     }
 
     // -- promise 10
+
+    private static void lettersOfTheText() {
+        Doc.sentence("Promise 10", "Returns a letter of the text.");
+        AnchoredNotes x = Sheets.text("zyx");
+        x.write(1, 0);
+        Due.looks(x, "zayx");
+        x.move(0, 1, 2);
+        Due.looks(x, "yxza");
+        x.erase(1, 2);
+        Due.looks(x, "ya");
+        x.undo();
+        Due.looks(x, "yxza");
+        for (int place = -1; place <= 7; place++) {
+            int asked = place;
+            Same.unchanged("letter(" + place + ")", Sheets::busy, y -> y.letter(asked));
+        }
+    }
 
     private static void letterAtTheEnds() {
         Doc.sentence("Promise 10", "Returns 0 to 25");
